@@ -204,7 +204,10 @@ public final class ModelTests {
         String[] longGames = {"caps 2 2 2 2 2; goal 40; stack 0 a; stack 2 b;",
             "caps 1 3 1 3 1; goal 40; period 3; stack 1 ab; stack 3 ba;",
             "caps 2 3 2 1 2 3; goal 40; reserve 1 1; period 7; stack 1 aab; stack 5 bba;",
-            "caps 1 1 1 1 1; goal 40; period 1; stack 0 a; stack 3 b;"};
+            "caps 1 1 1 1 1; goal 40; period 1; stack 0 a; stack 3 b;",
+            "caps 8 8 8 8 8; goal 40; stack 0 a; stack 2 b;",
+            "caps 6 5 8 7 8; goal 40; reserve 17 17; stack 0 aa; stack 2 bb;",
+            "caps 1 2 1 2 1 2 1 2 1 2 1 2; goal 40; period 2; stack 9 ab; stack 10 a; stack 11 ba;"};
         for (int seed = 1; seed <= 60; seed++) {
             Checks.begin("model, seed " + seed);
             new ModelTests(seed).playAnything(400);

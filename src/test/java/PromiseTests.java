@@ -103,9 +103,14 @@ public final class PromiseTests {
         due(ring, "player(1, 1)", 0);
         due(ring, "player(2, 1)", 20);
         due(ring, "player(1, 2)", 0);
+        Checks.due("a text with options", Checks.load(ring, "caps 8 8 8 8 8; period 20; goal 40; reserve 20 20; turn 2;"
+                + "stack 0 aaaaaaaa; stack 1 bbbbbbbb; stack 4 abababab;"), "24");
         Checks.due("a text without options", Checks.load(ring, "caps3 3 3 3 003 ;  "), "0");
-        due(ring, "count(3)", 0);
-        due(ring, "count(4)", 5);
+        int[] without = {5, 1, 0, 0, 5, 0, 0, 5, 0, 15};
+        for (int what = 0; what < without.length; what++) {
+            due(ring, "count(" + what + ")", without[what]);
+        }
+        due(ring, "player(1, 1)", 0);
         due(ring, "player(2, 1)", 0);
         refused(ring, "load(-1)", ARGUMENT);
         refused(ring, "load(" + LEAST + ")", ARGUMENT);
@@ -113,7 +118,7 @@ public final class PromiseTests {
         refused(ring, "load(21)", ARGUMENT);
         due(ring, "load(15)", 0);
         due(ring, "load(15)", ARGUMENT);
-        due(ring, "undo()", 4);
+        due(ring, "undo()", 5);
         due(ring, "count(9)", 15);
     }
 
@@ -131,6 +136,14 @@ public final class PromiseTests {
         error("", -2, 0);
         error("   ", -2, 3);
         error("cap", -2, 0);
+        error("daps 3 3 3 3 3;", -2, 0);
+        error("caps 3 3 3 3 3;foal 3;", -2, 15);
+        error("caps 3 3 3 3 3;stack 0 z;", -3, 23);
+        error("caps 3 3 3 3 3;stack 0 az;", -3, 23);
+        error("caps 3 3 3 3 3;stack 0 a{;", -2, 24);
+        error("caps 3 3 3 3 3;stack 0 a`;", -2, 24);
+        error("caps 3 3 3 3 3;stack 0:a;", -2, 22);
+        error("caps 3 3 3 3 3;stack /a;", -2, 21);
         error(" capsx 3 3 3 3 3;", -2, 1);
         error("Caps 3 3 3 3 3;", -2, 0);
         error("caps", -2, 4);
@@ -256,6 +269,9 @@ public final class PromiseTests {
             due(ring, "player(1, " + what + ")", one[what]);
             due(ring, "player(2, " + what + ")", two[what]);
         }
+        TowerRing other = Checks.game("caps 4 4 4 4 4; stack 0 abab; stack 1 aab; stack 2 aabb; stack 3 bba;");
+        due(other, "player(1, 4)", 6);
+        due(other, "player(2, 4)", 3);
         due(ring, "carry(3, 1, 1)", 1);
         due(ring, "player(1, 2)", 1);
         due(ring, "player(2, 2)", 0);
@@ -417,9 +433,42 @@ public final class PromiseTests {
         stacks(ring, "3 a", "3 ", "3 ", "3 ", "3 ", "3 ", "3 b");
     }
 
+    /** Positions that differ in the order of two pieces alone, in any cell and at any height. */
+    private static void promise10OrderOfPieces() {
+        for (int cell = 0; cell < 12; cell++) {
+            for (int below = 0; below <= 6; below++) {
+                int other = (cell + 6) % 12;
+                TowerRing ring = Checks.game("caps 8 8 8 8 8 8 8 8 8 8 8 8; stack " + cell + " " + "a".repeat(below)
+                        + "ba; stack " + other + " bb;");
+                due(ring, "roll(" + cell + ")", 2);
+                due(ring, "reason(" + (2000 + other) + ")", 0);
+                due(ring, "roll(" + other + ")", 2);
+            }
+        }
+    }
+
+    /** Positions in which some uppermost pieces of one of two stacks lie on the other one. */
+    private static void promise10Heights() {
+        for (int k = 1; k <= 4; k++) {
+            for (int height = k; height <= 8; height++) {
+                String low = "a".repeat(8 - k);
+                TowerRing ring = Checks.game("caps 8 8 8 8 8 8 8; turn 2; stack 0 " + "a".repeat(height - 1) + "b;"
+                        + (k < 4 ? "stack " + k + " " + low + "; " : "") + "stack 6 aa;");
+                due(ring, "carry(0, 0, " + k + ")", 0);
+                due(ring, "reason(2006)", 0);
+                due(ring, "roll(6)", 1);
+            }
+        }
+    }
+
     /** The stacks come again, but a piece of the reserve was dropped and stolen meanwhile. */
     private static void promise10Reserves() {
         TowerRing ring = Checks.game("caps 3 3 3 3 3; reserve 1 0; stack 0 aa; stack 2 b;");
+        due(ring, "drop(3)", 0);
+        due(ring, "carry(2, 0, 1)", 1);
+        due(ring, "roll(0)", 1);
+        due(ring, "reason(311)", 0);
+        ring = Checks.game("caps 3 3 3 3 3; reserve 1 20; stack 0 aa; stack 2 b;");
         due(ring, "drop(3)", 0);
         due(ring, "carry(2, 0, 1)", 1);
         due(ring, "roll(0)", 1);
@@ -434,6 +483,27 @@ public final class PromiseTests {
         due(ring, "carry(2, 0, 1)", 0);
         due(ring, "roll(0)", 1);
         due(ring, "reason(311)", 5);
+    }
+
+    /** Each of the positions before setTurn is forgotten, not the first one alone. */
+    private static void promise10AnewBehindMoves() {
+        TowerRing ring = Checks.game("caps 3 3 3 3 3 3 3; stack 0 a; stack 3 b;");
+        due(ring, "carry(0, 1, 1)", 0);
+        due(ring, "carry(3, 0, 1)", 0);
+        due(ring, "carry(6, 0, 1)", 0);
+        due(ring, "carry(4, 0, 1)", 0);
+        due(ring, "carry(0, 1, 1)", 0);
+        due(ring, "reason(511)", 5);
+        due(ring, "setPeriod(1)", 0);
+        due(ring, "reason(511)", 0);
+        due(ring, "undo()", 6);
+        due(ring, "reason(511)", 5);
+        due(ring, "setPeriod(0)", 0);
+        due(ring, "carry(5, 1, 1)", 0);
+        due(ring, "undo()", 7);
+        due(ring, "undo()", 6);
+        due(ring, "reason(511)", 5);
+        due(ring, "reason(501)", 0);
     }
 
     private static void promise11Carry() {
@@ -651,6 +721,15 @@ public final class PromiseTests {
         ring = Checks.game("caps 4 4 4 4 4; stack 0 a; stack 1 b;");
         due(ring, "result(1, 2)", 4);
         due(ring, "result(11, 2)", 0);
+        ring = Checks.game("caps 4 4 4 4 4 4 4; stack 0 a; stack 3 aab;");
+        due(ring, "carry(0, 1, 1)", 0);
+        due(ring, "carry(3, 1, 1)", 0);
+        due(ring, "result(601, 1)", 1);
+        due(ring, "result(601, 2)", 1);
+        due(ring, "answers(601)", 1);
+        due(ring, "setTurn(1)", 1);
+        due(ring, "result(601, 2)", 0);
+        due(ring, "answers(601)", 2);
     }
 
     private static void promise20Best() {
@@ -890,7 +969,10 @@ public final class PromiseTests {
         promise10TurnAndCaps();
         promise10TwentyPositions();
         promise10OlderPositions();
+        promise10OrderOfPieces();
+        promise10Heights();
         promise10Reserves();
+        promise10AnewBehindMoves();
         Checks.begin("promise 11");
         promise11Carry();
         promise11Guards();
