@@ -107,6 +107,32 @@ public final class FaceTests {
         }
     }
 
+    /** Whatever the arguments are, a call answers or throws what the document names. */
+    private static void checkStrangeArguments(String text) {
+        int[] strange = {Integer.MIN_VALUE, -1, 0, 1, 3000, Integer.MAX_VALUE};
+        for (Map.Entry<String, String> method : face().entrySet()) {
+            int arguments = method.getValue().charAt(0) - '0';
+            int calls = 1;
+            for (int i = 0; i < arguments; i++) {
+                calls *= strange.length;
+            }
+            TowerRing ring = new TowerRing();
+            for (int call = 0; call < calls; call++) {
+                if (call % 100 == 0) {
+                    ring = Checks.game(text);
+                }
+                int[] values = new int[arguments];
+                for (int i = 0, rest = call; i < arguments; i++, rest /= strange.length) {
+                    values[i] = strange[rest % strange.length];
+                }
+                String answer = Checks.call(ring, method.getKey(), values);
+                boolean isNamed = !answer.startsWith("throws")
+                        || Arrays.asList(method.getValue().split(" ")).contains(answer.substring(7));
+                Checks.dueTrue(method.getKey() + Arrays.toString(values) + " answered " + answer, isNamed);
+            }
+        }
+    }
+
     public static void main(String[] args) {
         Checks.begin("the face");
         Checks.due("the class", Modifier.toString(TowerRing.class.getModifiers()), "public final");
@@ -116,6 +142,8 @@ public final class FaceTests {
         checkMethods();
         checkFields();
         checkStatics(TowerRing.class);
+        checkStrangeArguments("caps 1 1 1 1 1;");
+        checkStrangeArguments("caps 8 8 8 8 8 8 8 8 8 8 8 8; reserve 9 9; period 1; stack 0 aaaa; stack 1 bba; stack 5 b;");
         for (Class<?> inside : TowerRing.class.getDeclaredClasses()) {
             Checks.due("modifiers of " + inside.getName(), Modifier.toString(inside.getModifiers()),
                     "private static final");

@@ -114,6 +114,12 @@ public final class PromiseTests {
         due(ring, "player(2, 1)", 0);
         refused(ring, "load(-1)", ARGUMENT);
         refused(ring, "load(" + LEAST + ")", ARGUMENT);
+        Checks.fill(ring, "caps 1 2 3 4 55;    ");
+        due(ring, "load(14)", -2);
+        due(ring, "errorPosition()", 14);
+        Checks.fill(ring, "caps 1 2 3 4 5;stack");
+        due(ring, "load(18)", -2);
+        due(ring, "errorPosition()", 15);
         Checks.fill(ring, "caps 1 2 3 4 5;");
         refused(ring, "load(21)", ARGUMENT);
         due(ring, "load(15)", 0);
@@ -443,6 +449,27 @@ public final class PromiseTests {
                 due(ring, "roll(" + cell + ")", 2);
                 due(ring, "reason(" + (2000 + other) + ")", 0);
                 due(ring, "roll(" + other + ")", 2);
+            }
+        }
+    }
+
+    /** Two lone pieces go round the ring and stand in each other's cell at last. */
+    private static void promise10ChangedPlaces() {
+        for (int cells = 6; cells <= 10; cells += 2) {
+            for (int start = 0; start < cells; start++) {
+                TowerRing ring = Checks.game("caps" + " 8".repeat(cells) + "; stack " + start + " a; stack "
+                        + (start + 1) % cells + " b;");
+                int a = start;
+                int b = start + 1;
+                for (int step = 1; step < cells; step++) {
+                    boolean isBack = 2 * step < cells;
+                    walk(ring, Math.floorMod(a, cells), isBack);
+                    walk(ring, b % cells, false);
+                    a += isBack ? -1 : 1;
+                    b++;
+                }
+                due(ring, "cell(" + start + ", 2)", 2);
+                due(ring, "cell(" + (start + 1) % cells + ", 2)", 1);
             }
         }
     }
@@ -970,6 +997,7 @@ public final class PromiseTests {
         promise10TwentyPositions();
         promise10OlderPositions();
         promise10OrderOfPieces();
+        promise10ChangedPlaces();
         promise10Heights();
         promise10Reserves();
         promise10AnewBehindMoves();
