@@ -437,9 +437,10 @@ public final class PromiseTests {
         }
         due(ring, "count(2)", 22);
         stacks(ring, "3 a", "3 ", "3 ", "3 ", "3 ", "3 ", "3 b");
+        due(ring, "undo()", 7);
         due(ring, "setPeriod(0)", 0);
-        due(ring, "carry(0, 1, 1)", 0);
-        due(ring, "reason(611)", 0);
+        due(ring, "carry(5, 1, 1)", 0);
+        due(ring, "reason(11)", 0);
     }
 
     /** Positions that differ in the order of two pieces alone, in any cell and at any height. */
