@@ -29,8 +29,8 @@ final class Checks {
         due(what, String.valueOf(holds), "true");
     }
 
-    static int wrongSoFar() {
-        return wrong;
+    static int checkedSoFar() {
+        return checked;
     }
 
     /** Ends the program, with exit code 1 if an answer was wrong. */
@@ -58,9 +58,13 @@ final class Checks {
         }
     }
 
-    /** Checks a call written as "name(1, 2)" against an answer. */
+    /** The answer of a call written as "name(1, 2)". */
+    static String callWritten(Object target, String call) {
+        return call(target, nameOf(call), argumentsOf(call));
+    }
+
     static void due(Object target, String call, String want) {
-        due(call, call(target, nameOf(call), argumentsOf(call)), want);
+        due(call, callWritten(target, call), want);
     }
 
     static void due(Object target, String call, int want) {
