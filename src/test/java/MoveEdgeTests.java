@@ -144,6 +144,19 @@ public final class MoveEdgeTests {
                 play.due(lastOne, cells <= 10 ? Play.STATE : "0");
             }
         });
+        Play.edge("section 3: a position 4 moves back, wherever the stacks stand", () -> {
+            for (int cells = 5; cells <= 12; cells++) {
+                for (int start = 0; start < cells; start++) {
+                    int other = (start + 2) % cells;
+                    Play play = Play.of(caps(cells, 3) + stack(start, "a") + stack(other, "b"));
+                    play.due("carry(" + start + ", 0, 1)", 0).due("carry(" + other + ", 0, 1)", 0)
+                            .due("carry(" + (start + 1) % cells + ", 1, 1)", 0);
+                    int now = (other + 1) % cells;
+                    play.due("reason(" + (100 * now + 11) + ")", 5).due("reason(" + (100 * now + 1) + ")", 0);
+                }
+            }
+        });
+        Play.edge("section 3: the oldest of 20 positions on twelve cells", MoveEdgeTests::oldestOfTwenty);
         Play.edge("section 3: the position behind the latest load, setTurn, setPeriod or rotateCaps counts", () -> {
             String[] calls = {"setTurn(1)", "setPeriod(0)", "rotateCaps()"};
             Play.of(CAPS + "stack 0 aa; stack 1 bb;").due("roll(0)", 1).due("reason(2001)", 5);
@@ -184,6 +197,21 @@ public final class MoveEdgeTests {
                 .due("reason(2000)", 0).due("roll(0)", 1));
         Play.edge("section 3: the cell of a stack is part of a position", () -> Play.of(CAPS + "stack 0 a; stack 2 b;")
                 .due("carry(0, 0, 1)", 0).due("carry(2, 0, 1)", 0).due("carry(1, 0, 1)", 0).due("reason(301)", 0));
+    }
+
+    /** Two lone pieces go on and back, each in its own way, and stand where they began with the 20th move. */
+    private static void oldestOfTwenty() {
+        int[] wayOfA = {0, 1, 2, 3, 2, 1, 0, 11, 10, 11, 0};
+        int[] wayOfB = {6, 7, 8, 9, 10, 11, 10, 9, 8, 7, 6};
+        Play play = Play.of(caps(12, 3) + "goal 40; stack 0 a; stack 6 b;");
+        for (int step = 0; step < 10; step++) {
+            int directionOfA = (wayOfA[step] + 1) % 12 == wayOfA[step + 1] ? 0 : 1;
+            int directionOfB = step < 5 ? 0 : 1;
+            play.due("carry(" + wayOfA[step] + ", " + directionOfA + ", 1)", 0);
+            play.due("reason(" + (100 * wayOfB[step] + 10 * directionOfB + 1) + ")", step < 9 ? 0 : 5);
+            play.due("carry(" + wayOfB[step] + ", " + directionOfB + ", 1)", step < 9 ? "0" : Play.STATE);
+        }
+        play.due("count(2)", 19).due("carry(7, 0, 1)", 0).due("carry(0, 0, 1)", 0).due("reason(811)", 5);
     }
 
     private static void carries() {

@@ -167,6 +167,8 @@ public final class RingEdgeTests {
                 + "stack 3 bba; stack 4 aaa; stack 5 b; stack 0 a;").due("highest(1)", 3).due("highest(2)", 10));
         Play.edge("9: a higher stack further on, in the last cell too", () -> Play.of(caps(12, 8) + "stack 0 a; stack 3 aa;"
                 + "stack 11 bba; stack 1 bb; stack 7 aab; stack 8 aaaaaaab;").due("highest(1)", 11).due("highest(2)", 8));
+        Play.edge("9: a lower stack further on does not count", () -> Play.of(caps(12, 8) + "stack 0 aa; stack 1 a; stack 4 b;"
+                + "stack 5 aaab; stack 6 aab; stack 11 b;").due("highest(1)", 0).due("highest(2)", 5));
         Play.edge("9: a higher stack of the other player does not count", () -> Play.of(caps(5, 8)
                 + "stack 0 aaaaaaab; stack 1 a; stack 2 bbba; stack 3 bbbbbbbb;").due("highest(1)", 2).due("highest(2)", 0));
         Play.edge("9: heights from 1 to 8", () -> {

@@ -74,6 +74,20 @@ public final class SearchEdgeTests {
             Play.of(CAPS + "reserve 0 1; stack 0 aa; stack 3 b;").due("result(2000, 2)", 1 - 2);
             Play.of(CAPS + "stack 0 aa; stack 3 ab;").due("result(2000, 2)", -6 - 1);
         });
+        Play.edge("19: depth 2, the first of all codes and the last one may be the answer", () -> {
+            Play.of(caps(6, 3) + "stack 2 a; stack 0 b;").due("result(211, 1)", 0).due("result(211, 2)", -3 - 1);
+            for (int cells = 5; cells <= 12; cells += 7) {
+                StringBuilder text = new StringBuilder(caps(cells, 3)).append("reserve 0 1; stack 0 aa;");
+                for (int cell = 1; cell < cells - 1; cell++) {
+                    text.append("stack").append(cell).append("a;");
+                }
+                Play.of(text.toString()).due("result(2000, 1)", cells - 1).due("result(2000, 2)", cells - 1 - 1)
+                        .due("answers(2000)", 1);
+            }
+        });
+        Play.edge("19: depth 2, all answers are better for this player than depth 1 tells", () -> Play.of(
+                "caps 2 1 2 2 2 2 2 2; period 2; stack 0 a; stack 2 aa; stack 5 b;").due("result(11, 1)", 2 - 1)
+                .due("result(11, 2)", 3 - 1));
         Play.edge("19: depth 2, no answer as the other player has no piece", () -> Play.of(CAPS + "stack 0 a; stack 1 b;")
                 .due("result(1, 1)", 4).due("result(1, 2)", 4).due("answers(1)", 0));
         Play.edge("19: depth 2, no answer as the move wins", () -> {

@@ -182,7 +182,7 @@ public final class TextEdgeTests {
 
     private static void grammar() {
         String[] noNumber = {";", "a", "caps", "stack", "$", "-", "\t"};
-        Play.edge("5: a text begins with caps", () -> notAllowed("", ";", "3", "cap", "capss", "scaps", "stack", "goal",
+        Play.edge("5: a text begins with caps", () -> notAllowed("", ";", "3", "cap", "daps", "cups", "caqs", "capt", "capss", "scaps", "stack", "goal",
                 "Caps", "$", "{"));
         Play.edge("5: behind caps stand at least five numbers", () -> {
             for (int caps = 0; caps < 5; caps++) {
@@ -202,7 +202,8 @@ public final class TextEdgeTests {
         Play.edge("5: behind caps from cell 0 on", () -> Play.of("caps 8 7 6 5 4 3 2 1 2 3 4 5;")
                 .stacks("8 ", "7 ", "6 ", "5 ", "4 ", "3 ", "2 ", "1 ", "2 ", "3 ", "4 ", "5 "));
         Play.edge("5: behind the caps come options and stacks, or the end", () -> {
-            String[] wrong = {";", "3", "a", "b", "caps", "goals", "goa", "stac", "stacks", "turns", "reserv", "$", "{"};
+            String[] wrong = {";", "3", "a", "b", "caps", "goals", "goa", "stac", "stacks", "turns", "reserv",
+                "ttack", "stacl", "foal", "goam", "turm", "uurn", "qeriod", "perioe", "seserve", "reservf", "Goal", "$", "{"};
             for (String before : new String[] {CAPS, CAPS + "goal 3;", CAPS + " reserve 1 2;"}) {
                 isRead(before, 0);
                 isRead(before + "  ", 0);
