@@ -1,3 +1,4 @@
+import java.util.List;
 import java.util.function.Supplier;
 
 /** The boundaries of promises 22 to 24 and 27 to 30, of the changes in section 5 and of section 6. */
@@ -331,7 +332,7 @@ public final class ChangeEdgeTests {
             "reach(12)", "result(5, 1)", "best(3)", "answers(5)", "setTurn(3)", "setPeriod(21)", "writeStack(12)",
             "writtenByte(10)", "save(2)", "restore(2)", "differing(2)"};
         Play.edge("section 6: a method that throws an exception changes nothing", () -> {
-            for (Supplier<Play> maker : java.util.List.<Supplier<Play>>of(Play::fresh, ChangeEdgeTests::ready)) {
+            for (Supplier<Play> maker : List.<Supplier<Play>>of(Play::fresh, ChangeEdgeTests::ready)) {
                 for (String call : always) {
                     String answer = Checks.callWritten(maker.get().ring, call);
                     Checks.dueTrue(call + " throws, it answered " + answer, answer.startsWith("throws"));
